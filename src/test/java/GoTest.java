@@ -133,6 +133,11 @@ public final class GoTest {
         Check.due("those done stay so", x.late(0), 1);
         Check.due("3 came", x.late(2), 3);
         Check.due("three in all", x.late(3), -1);
+        HatWorks y = works();
+        Check.addOrder(y, 100, SMALL, 0, 1);
+        Check.due("due 0 at minute 0", y.late(0), -1);
+        y.wait(1);
+        Check.due("order 0 is late", y.late(0), 0);
     }
 
     private static void counting() {

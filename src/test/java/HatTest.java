@@ -10,6 +10,8 @@ public final class HatTest {
         badNumbers();
         incomplete();
         faultStays();
+        cutHats();
+        sixty();
         told();
         Check.end();
     }
@@ -119,6 +121,10 @@ public final class HatTest {
         faulty("crowns 5,felt 1", -9, 0);
         faulty("  crow 5,felt 1", -9, 2);
         faulty("Crown 5,felt 1", -9, 0);
+        faulty("xrown 5,felt 1", -9, 0);
+        faulty("crowz 5,felt 1", -9, 0);
+        faulty("feltz 1,crown 5", -9, 0);
+        faulty("felta 1,crown 5", -9, 0);
         faulty("crown 5,fel", -9, 8);
         faulty("crown 5, crown 6,felt 1", -9, 9);
         faulty("crown 5, crown", -9, 9);
@@ -169,8 +175,42 @@ public final class HatTest {
         Check.due("no hat was read, so it stays", x.fault(), 6);
         Check.illegal("weight", () -> x.order(0, 0, 0));
         Check.due("it stays behind a throw", x.fault(), 6);
-        Check.addOrder(x, 100, "crown 5,felt 1", 0, 1);
+        Check.due("a good hat behind a bad one", Check.addOrder(x, 100, "crown 5,felt 1", 0, 1), 0);
         Check.due("a good hat", x.fault(), -1);
+    }
+
+    /** What stands on the tape behind the n bytes is no part of the hat. */
+    private static void cutHats() {
+        cut("crown 5,felt 12", 14, 0, -1);
+        cut("crown 5,felt 1x", 14, 0, -1);
+        cut("crown 5,felt 1  x", 16, 0, -1);
+        cut("crown 5,felt 1", 13, -9, 13);
+        cut("crown 5,felt 1", 12, -9, 12);
+        cut("crown 5,felt 1", 11, -9, 8);
+        cut("crown 5,felt 1", 8, -9, 8);
+        cut("crown 5,felt 1", 7, -7, 7);
+        cut("crown  5,felt 1", 6, -9, 6);
+        cut("crown 5,felt 1", 4, -9, 0);
+        cut("crown 5,felt 1", 0, -9, 0);
+    }
+
+    private static void cut(String hat, int n, int answer, int place) {
+        HatWorks x = works();
+        Check.pushRing(x, 100, 100);
+        Check.feed(x, hat);
+        Check.due(n + " of '" + hat + "'", x.order(n, 0, 1), answer);
+        Check.due("the fault of " + n + " of '" + hat + "'", x.fault(), place);
+    }
+
+    /** Behind the 512th call nothing is promised; here the class is still to keep to its rows. */
+    private static void sixty() {
+        HatWorks x = works();
+        for (int k = 0; k < 60; k++) {
+            Check.due("order " + k, Check.addOrder(x, 100, "crown 5,felt 1", 0, 1), k);
+        }
+        Check.due("a 61st", Check.addOrder(x, 100, "crown 5,felt 1", 0, 1), -3);
+        Check.due("hand stays at 60", x.count(4), 12);
+        Check.due("tape stays at 60", x.count(5), 20);
     }
 
     private static void told() {

@@ -68,7 +68,7 @@ public final class RandomRunsTest {
             same("wait " + minutes, () -> x.wait(minutes), () -> model.wait(minutes));
         } else if (kind < 21) {
             same("told " + order + " " + small, () -> x.told(order, small), () -> model.told(order, small));
-        } else if (kind < 23 && model.count(2) < 6) {
+        } else if (kind < 23 && (model.count(2) < 6 || random.nextInt(8) == 0)) {
             same("plan", x::plan, model::plan);
             same("planned " + small, () -> x.planned(small), () -> model.planned(small));
         } else if (kind == 23 && random.nextInt(4) == 0) {
