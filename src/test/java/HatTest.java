@@ -109,6 +109,8 @@ public final class HatTest {
         faulty("crown  ", -9, 7);
         faulty("crown,felt 1", -9, 5);
         faulty("crown ,felt 1", -9, 6);
+        faulty("crown,felt 9", -9, 5);
+        faulty("crown 5 felt 9", -9, 8);
         faulty("crown 5,", -9, 8);
         faulty("crown 5, ", -9, 9);
         faulty("crown 5,,felt 1", -9, 8);

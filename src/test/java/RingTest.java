@@ -125,5 +125,10 @@ public final class RingTest {
         Check.due("order", Check.addOrder(x, 100, "crown 5,felt 1", 0, 1), 1);
         Check.due("the least block", x.told(1, 0), 2);
         Check.due("turn 0", x.told(1, 1), 0);
+        HatWorks y = new HatWorks();
+        Check.addBlock(y, 200, 200);
+        Check.due("order", Check.addOrder(y, 50, "crown 5,felt 1", 0, 1), 0);
+        Check.due("the only block", y.told(0, 0), 0);
+        Check.due("the most misfit", y.told(0, 2), 270000);
     }
 }
