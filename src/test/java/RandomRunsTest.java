@@ -26,33 +26,26 @@ public final class RandomRunsTest {
         Check.end();
     }
 
+    /** Most runs begin with few blocks; some with all ten, some near the last minute. */
     private void all() {
-        int first = 1 + random.nextInt(4);
+        int kind = random.nextInt(10);
+        int first = kind == 0 ? 10 : 1 + random.nextInt(4);
         for (int k = 0; k < first; k++) {
             ring();
             same("block", x::block, model::block);
+        }
+        for (int k = 0; k < 100 && kind == 1; k++) {
+            int minutes = 10000 - random.nextInt(8);
+            same("wait " + minutes, () -> x.wait(minutes), () -> model.wait(minutes));
         }
         while (calls < CALLS - 30) {
             step(random.nextInt(40));
         }
     }
 
-    private static String answer(Check.Call call) {
-        try {
-            return Long.toString(call.answer());
-        } catch (RuntimeException e) {
-            return e.getClass().getSimpleName();
-        }
-    }
-
     private void same(String what, Check.Call mine, Check.Call due) {
         calls++;
-        String got = answer(mine);
-        String want = answer(due);
-        if (!got.equals(want)) {
-            System.out.println("got " + got + ", due is " + want);
-            Check.due(name + "call " + calls + ", " + what, 0, 1);
-        }
+        Check.due(name + "call " + calls + ", " + what, Check.outcome(mine), Check.outcome(due));
     }
 
     private void step(int kind) {
