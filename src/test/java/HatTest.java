@@ -147,7 +147,9 @@ public final class HatTest {
             fault(1, 0, part + part + rest);
             fault(1, 0, "a" + part + rest);
             fault(1, 0, part.toUpperCase() + rest);
-            fault(1, 0, cut + (char) (part.charAt(cut.length()) + 1) + rest);
+            for (int i = 0; i < part.length(); i++) {
+                fault(1, 0, part.substring(0, i) + (char) (part.charAt(i) + 1) + part.substring(i + 1) + rest);
+            }
             fault(1, 0, cut + part.substring(cut.length()).toUpperCase() + rest);
             fault(1, 2, "  " + cut + rest);
         }

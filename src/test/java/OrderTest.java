@@ -167,6 +167,8 @@ public final class OrderTest {
         Check.outside("there is no 61st", () -> x.told(60, 3));
         Check.due("all go", x.run() + x.run() + x.run() + x.run() + x.run() + x.run() + x.run() + x.run(), 53);
         Check.due("none waits", x.count(2), 0);
+        Check.due("the last that is late", x.late(59), 59);
+        Check.due("no other is late", x.late(60), -1);
     }
 
     private static void refusedForAFault() {
